@@ -1725,9 +1725,9 @@ public final class DogNotary {
         int goings;
         int first;
         int reach;
-        /** By the dog's cell, the beast's cells as bits. */
+        /** By the cell to which the dog has gone, the beast's cells (bits) from which it has had its minute. */
         private final long[] seen;
-        /** The dog's cell, the beast's (64 times), the first direction (4096 times), the goings (16384 times). */
+        /** That cell, the beast's (64 times), the first direction (4096 times), the goings (16384 times). */
         private final int[] queue;
         private int tail;
 
@@ -1741,34 +1741,36 @@ public final class DogNotary {
             goings = NONE;
             first = NONE;
             Arrays.fill(seen, 0);
-            long cells = 1L << flock.at[0];
             tail = 0;
-            put(flock.dog, flock.at[0], 0, 0);
+            long cells = 1L << flock.at[0];
+            goOn(flock, NONE, 0);
             for (int head = 0; head < tail && head < queue.length; head++) {
                 int entry = queue[head];
-                for (int d = 0; d < DIRECTIONS; d++) {
-                    flock.dog = entry & 63;
-                    flock.at[0] = entry >> 6 & 63;
-                    flock.penned = 0;
-                    if (flock.dogGoes(d)) {
-                        flock.goes(0);
-                        cells |= 1L << flock.at[0];
-                        goOn(flock, entry, d);
-                    }
+                flock.dog = entry & 63;
+                flock.at[0] = entry >> 6 & 63;
+                flock.penned = 0;
+                flock.goes(0);
+                cells |= 1L << flock.at[0];
+                int began = entry >> 12 & 3;
+                if (!flock.isPenned(0)) {
+                    goOn(flock, began, entry >> 14);
+                } else if (goings == NONE) {
+                    // entries come by goings and, among as many, by first directions: this is the least
+                    goings = entry >> 14;
+                    first = began;
                 }
             }
             reach = Long.bitCount(cells);
         }
 
-        /** Entries come in order of goings and, among as many, of first directions: the first one penned is the least. */
-        private void goOn(Flock flock, int entry, int direction) {
-            int gone = entry >> 14;
-            int began = gone == 0 ? direction : entry >> 12 & 3;
-            if (!flock.isPenned(0)) {
-                put(flock.dog, flock.at[0], began, gone + 1);
-            } else if (goings == NONE) {
-                goings = gone + 1;
-                first = began;
+        /** Puts down all goings of the dog from where he is; the first ones begin by their own direction. */
+        private void goOn(Flock flock, int began, int gone) {
+            int from = flock.dog;
+            for (int d = 0; d < DIRECTIONS; d++) {
+                flock.dog = from;
+                if (flock.dogGoes(d)) {
+                    put(flock.dog, flock.at[0], began == NONE ? d : began, gone + 1);
+                }
             }
         }
 
