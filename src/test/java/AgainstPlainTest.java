@@ -20,7 +20,7 @@ public final class AgainstPlainTest {
     }
 
     public static void main(String[] args) {
-        int runs = args.length > 0 ? Integer.parseInt(args[0]) : 1500;
+        int runs = args.length > 0 ? Integer.parseInt(args[0]) : 4000;
         for (int seed = 0; seed < runs && wrong < 10; seed++) {
             new AgainstPlainTest(seed).runAll();
         }
@@ -427,10 +427,10 @@ public final class AgainstPlainTest {
             int n = r.nextInt(15) == 0 ? 9 : r.nextInt(5);
             int code = r.nextInt(36);
             for (int i = 0; i < n; i++) {
-                int bc = r.nextInt(8);
+                int bc = r.nextInt(r.nextInt(60) == 0 ? 10 : 8);
                 int br = r.nextInt(8);
                 int dc = Math.max(0, Math.min(7, bc + r.nextInt(7) - 3));
-                int dr = Math.max(0, Math.min(7, br + r.nextInt(7) - 3));
+                int dr = Math.max(0, Math.min(r.nextInt(30) == 0 ? 9 : 7, br + r.nextInt(7) - 3));
                 if (bc == dc && br == dr && r.nextInt(8) > 0) {
                     dc = bc == 0 ? 1 : bc - 1;
                 }

@@ -67,6 +67,7 @@ public final class PromisesTest {
         feedAndEnd();
         texts();
         faultsOfWords();
+        textsThatWereCut();
         faultsOfNumbers();
         faultsOfLimits();
         faultsOfFells();
@@ -227,6 +228,21 @@ public final class PromisesTest {
         faultOf(3, "go 1;", 1, 0);
     }
 
+    /** What was struck off the tape is no part of a text, though it would go on with it. */
+    private static void textsThatWereCut() {
+        String[] all = {"go 12;", "lie;", "stand;", "go 1;"};
+        int[] cuts = {4, 2, 5, 4};
+        int[][] faults = {{1, 4}, {1, 0}, {1, 5}, {1, 4}};
+        for (int i = 0; i < all.length; i++) {
+            DogNotary x = new DogNotary();
+            feedAll(x, all[i]);
+            due("cut '" + all[i] + "'", x.end(cuts[i]), cuts[i]);
+            due("text of cut '" + all[i] + "'", x.text(1, NONE), NONE);
+            due("its fault", x.fault(0), faults[i][0]);
+            due("its place", x.fault(1), faults[i][1]);
+        }
+    }
+
     private static void faultsOfNumbers() {
         faultOf(0, "size 9 2;", 2, 5);
         faultOf(0, "size 2 1;", 2, 7);
@@ -252,6 +268,10 @@ public final class PromisesTest {
         faultOf(3, "stayed 8 0 8 0;", 2, 7);
         faultOf(3, "twice 0 0 0 1 4;", 2, 14);
         faultOf(3, "stayed 7 7 7 6;", 0, NONE);
+        faultOf(3, "stayed 0 0 0 8;", 2, 13);
+        faultOf(3, "stayed 0 0 8 0;", 2, 11);
+        faultOf(3, "stayed 0 8 0 0;", 2, 9);
+        faultOf(3, "stayed 0 8 0 8;", 2, 9);
         faultOf(0, "size 9 2;ewe 9 9;", 2, 5);
     }
 
@@ -648,6 +668,16 @@ public final class PromisesTest {
         due("it", b.fits(0, 10), 19);
         due("sure of its kind", b.fits(0, 1), 2);
         due("sure of its eye", b.fits(0, 2), 2);
+        // an ewe by an eye of 1, and all rams
+        DogNotary near = with(3, "went 3 3 3 4 0;stayed 3 3 3 5;");
+        due("an ewe that is like a ram", near.fits(0, 0), 10);
+        due("she is the first", near.fits(0, 10), 0);
+        due("so no kind is sure", near.fits(0, 1), NONE);
+        due("nor an eye", near.fits(0, 2), NONE);
+        DogNotary goose = with(3, "went 3 3 5 3 1;");
+        due("a goose by an eye of 2 or more", goose.fits(0, 0), 8);
+        due("sure of the goose", goose.fits(0, 1), 3);
+        due("not of its eye", goose.fits(0, 2), NONE);
         due("a bolter with two directions did neither", with(3, "went 3 1 3 2 0;").fits(0, 0), 18);
         due("a bolter with one step alone", with(3, "went 7 1 6 1 0;").fits(0, 0), 27);
     }
@@ -855,6 +885,10 @@ public final class PromisesTest {
         DogNotary y = with(0, SMALL);
         say(y, 1, "stand;go 1;");
         due("caught behind END", y.caught(0, 0, 0), NONE);
+        // a shorter drive in the place of a longer one
+        x.text(1, 1);
+        due("caught by no whistles", x.caught(1, 1, 0), NONE);
+        due("till of no whistles", x.till(1, 1), 0);
         due("spread at first", x.spread(0, 0, 0), 4);
         due("spread 3", x.spread(0, 0, 3), 5);
         due("spread 8", x.spread(0, 0, 8) >= 0, true);
