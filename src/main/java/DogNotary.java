@@ -101,12 +101,13 @@ public final class DogNotary {
     public int text(int sort, int at) {
         told.fault = 0;
         told.place = NONE;
+        int length = told.length;
+        told.length = 0;
         int number = numberOfText(sort, at);
         if (number == NO_SUCH) {
             return NO_SUCH;
         }
-        boolean sound = reader.reads(told.tape, told.length, sort);
-        told.length = 0;
+        boolean sound = reader.reads(told.tape, length, sort);
         if (!sound) {
             told.fault = reader.fault;
             told.place = reader.place;

@@ -388,12 +388,12 @@ final class PlainNotary {
     int text(int sort, int at) {
         faultNow = 0;
         placeNow = -1;
-        if (sort(sort) == null || at < -1 || at >= sort(sort).size() || at == -1 && sort(sort).size() == 2) {
-            return -2;
-        }
         StringBuilder sb = new StringBuilder();
         tape.forEach(b -> sb.append((char) (int) b));
         tape = new ArrayList<>();
+        if (sort(sort) == null || at < -1 || at >= sort(sort).size() || at == -1 && sort(sort).size() == 2) {
+            return -2;
+        }
         List<Line> lines = new ArrayList<>();
         Fault fault = lines(sb.toString(), sort, lines);
         Object made = fault == null ? make(sort, lines) : null;

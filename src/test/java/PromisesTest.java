@@ -157,15 +157,14 @@ public final class PromisesTest {
         DogNotary x = new DogNotary();
         due("an empty text", x.text(0, NONE), 0);
         due("a second one", say(x, 0, "size 2 3;"), 1);
-        feedAll(x, "lie;");
-        due("a third fell", x.text(0, NONE), -2);
-        due("no such sort", x.text(4, NONE), -2);
-        due("no such sort below", x.text(-1, NONE), -2);
-        due("in the place of none", x.text(1, 0), -2);
-        due("in the place of -2", x.text(0, -2), -2);
-        due("in the place of a third", x.text(0, 2), -2);
-        due("the tape was not taken", x.end(4), 4);
-        due("and is a drive", x.text(1, NONE), 0);
+        refused(x, "a third fell", 0, NONE);
+        refused(x, "no such sort", 4, NONE);
+        refused(x, "no such sort below", -1, NONE);
+        refused(x, "in the place of none", 1, 0);
+        refused(x, "in the place of -2", 0, -2);
+        refused(x, "in the place of a third", 0, 2);
+        due("no drive came of them", x.count(1), 0);
+        due("a drive", say(x, 1, "lie;"), 0);
         due("the tape is empty then", x.end(1), NONE);
         feedAll(x, "size 9 9;");
         due("a fault in the place of one", x.text(0, 1), NONE);
@@ -187,6 +186,18 @@ public final class PromisesTest {
             }
             due("too many of sort " + sort, x.text(sort, NONE), -2);
         }
+    }
+
+    // A text that is not read takes the tape all the same.
+    private static void refused(DogNotary x, String what, int sort, int at) {
+        due(what + ": a fault ahead of it", say(x, 3, "lie"), NONE);
+        feedAll(x, "lie;");
+        due(what, x.text(sort, at), -2);
+        due(what + ": fault(0)", x.fault(0), 0);
+        due(what + ": fault(1)", x.fault(1), NONE);
+        due(what + ": the tape is empty then", x.end(1), NONE);
+        due(what + ": and is fed from its beginning", x.feed(0, 0, 0, 0, 0), 20);
+        x.end(0);
     }
 
     private static void faultsOfWords() {
