@@ -814,6 +814,8 @@ public final class DogNotary {
         int eye;
         int beasts;
         long walls;
+        /** Each cell that a line told of (bits), also one whose pen or dog a later line struck. */
+        private long toldOf;
         final int[] kind;
         final int[] cell;
 
@@ -831,6 +833,7 @@ public final class DogNotary {
             eye = 3;
             beasts = 0;
             walls = 0;
+            toldOf = 0;
         }
 
         void copy(Fell from) {
@@ -841,6 +844,7 @@ public final class DogNotary {
             eye = from.eye;
             beasts = from.beasts;
             walls = from.walls;
+            toldOf = from.toldOf;
             System.arraycopy(from.kind, 0, kind, 0, MOST_BEASTS);
             System.arraycopy(from.cell, 0, cell, 0, MOST_BEASTS);
         }
@@ -865,16 +869,19 @@ public final class DogNotary {
         }
 
         void keep(int code, int[] numbers) {
+            if (code == Line.SIZE.code) {
+                wide = numbers[0];
+                high = numbers[1];
+                return;
+            }
             int at = SIDE * numbers[1] + numbers[0];
+            toldOf |= 1L << at;
             if (code < KINDS) {
                 addBeast(code, at);
             } else if (code == Line.WALL.code) {
                 walls |= 1L << at;
             } else if (code == Line.PEN.code) {
                 pen = at;
-            } else if (code == Line.SIZE.code) {
-                wide = numbers[0];
-                high = numbers[1];
             } else {
                 dog = at;
                 eye = numbers[2];
@@ -892,19 +899,14 @@ public final class DogNotary {
         /** The fault of the fell as a whole: 4, 5, or 0 without. */
         int flaw() {
             for (int c = 0; c < ALL_CELLS; c++) {
-                if (isWall(c) && !isInside(c)) {
+                if ((toldOf >>> c & 1) != 0 && !isInside(c)) {
                     return 4;
                 }
             }
-            boolean inside = isInside(pen) && isInside(dog);
             boolean apart = pen != dog && !isWall(pen) && !isWall(dog);
             for (int b = 0; b < beasts; b++) {
                 int own = cell[b];
-                inside &= isInside(own);
                 apart &= own != pen && own != dog && !isWall(own) && beastAt(own) == b;
-            }
-            if (!inside) {
-                return 4;
             }
             return apart ? 0 : 5;
         }

@@ -341,6 +341,7 @@ public final class AgainstPlainTest {
                 high = 2 + r.nextInt(7);
                 line(r, s, "size", wide, high);
             }
+            struck(r, s, wide, high);
             boolean[] used = new boolean[64];
             if (r.nextInt(4) > 0) {
                 int c = free(r, used, wide, high);
@@ -372,6 +373,20 @@ public final class AgainstPlainTest {
             }
             if (r.nextInt(25) == 0) {
                 line(r, s, r.nextBoolean() ? "pen" : "wall", r.nextInt(9), r.nextInt(8));
+            }
+        }
+
+        /** Lines that later ones mostly strike: most of cells that are there, some of others. */
+        private static void struck(Random r, StringBuilder s, int wide, int high) {
+            for (int i = 0; i < 2 && r.nextInt(8) == 0; i++) {
+                boolean out = r.nextInt(4) == 0;
+                int column = r.nextInt(out ? 8 : wide);
+                int row = r.nextInt(out ? 8 : high);
+                if (r.nextBoolean()) {
+                    line(r, s, "pen", column, row);
+                } else {
+                    line(r, s, "dog", column, row, 1 + r.nextInt(9));
+                }
             }
         }
 

@@ -445,8 +445,12 @@ final class PlainNotary {
         Spot dog = new Spot(1, 1);
         Set<Spot> walls = new HashSet<>();
         List<Beast> beasts = new ArrayList<>();
+        List<Spot> toldOf = new ArrayList<>();
         for (Line l : lines) {
             Spot s = new Spot(l.n[0], l.n[1]);
+            if (!l.word.equals("size")) {
+                toldOf.add(s);
+            }
             switch (l.word) {
                 case "size" -> {
                     wide = l.n[0];
@@ -462,15 +466,15 @@ final class PlainNotary {
             }
         }
         Fell f = new Fell(wide, high, walls, pen, dog, eye, beasts);
-        List<Spot> solid = new ArrayList<>(walls);
-        solid.add(pen);
-        solid.add(dog);
-        beasts.forEach(b -> solid.add(b.spot));
-        for (Spot s : solid) {
+        for (Spot s : toldOf) {
             if (!f.there(s)) {
                 return 4;
             }
         }
+        List<Spot> solid = new ArrayList<>(walls);
+        solid.add(pen);
+        solid.add(dog);
+        beasts.forEach(b -> solid.add(b.spot));
         if (new HashSet<>(solid).size() != solid.size()) {
             return 5;
         }

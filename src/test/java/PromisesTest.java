@@ -321,6 +321,24 @@ public final class PromisesTest {
         faultOf(0, "pen 1 1;", 5, 8);
         faultOf(0, "ram 2 2;goose 2 2;", 5, 18);
         faultOf(0, "pen 1 1;pen 0 0;", 0, NONE);
+        faultsOfStruckLines();
+    }
+
+    /** FAULT 4 asks after each cell that was told of, FAULT 5 after what the fell has in the end. */
+    private static void faultsOfStruckLines() {
+        faultOf(0, "pen 7 0;pen 0 0;    ", 4, 20);
+        faultOf(0, "pen 0 6;pen 5 0;pen 0 5;", 4, 24);
+        faultOf(0, "dog 6 1 3;dog 1 1 3;", 4, 20);
+        faultOf(0, "dog 1 6 3;dog 1 1 3;", 4, 20);
+        faultOf(0, "dog 7 7 3;dog 7 6 3;dog 2 2 3;size 8 8;", 0, NONE);
+        faultOf(0, "pen 7 0;pen 0 0;size 8 6;", 0, NONE);
+        faultOf(0, "size 8 8;pen 7 0;pen 0 0;size 6 6;", 4, 34);
+        faultOf(0, "size 7 7;dog 6 6 1;dog 1 1 1;size 2 2;", 4, 38);
+        faultOf(0, "size 2 2;dog 6 6 1;dog 1 1 1;size 7 7;", 0, NONE);
+        faultOf(0, "pen 7 0;pen 1 1;", 4, 16);
+        faultOf(0, "wall 2 2;pen 2 2;pen 3 3;", 0, NONE);
+        faultOf(0, "ewe 2 2;dog 2 2 3;dog 0 0 3;pen 4 4;", 0, NONE);
+        faultOf(0, "dog 2 2 3;wall 1 1;pen 3 3;wall 0 0;", 0, NONE);
     }
 
     private static void fells() {
