@@ -117,4 +117,96 @@ final class Boundaries {
         due("fault(1) of '" + s + "'", x.fault(1), place);
         due("count behind '" + s + "'", x.count(sort), fault == 0 ? 1 : 0);
     }
+
+    /** A call by one of its numbers, the others being what they are. */
+    interface Call {
+        long of(DogNotary x, int n);
+    }
+
+    /** Numbers that are outside give one answer. */
+    static void outside(String call, DogNotary x, Call c, long want, int... numbers) {
+        for (int n : numbers) {
+            due(call + " by " + n, c.of(x, n), want);
+        }
+    }
+
+    /** The first and the last number inside and their answers, and those beside them. */
+    static void bounds(String call, DogNotary x, Call c, int[] inside, long[] wants, long outside) {
+        int least = inside[0];
+        int greatest = inside[inside.length - 1];
+        for (int i = 0; i < inside.length; i++) {
+            due(call + " by " + inside[i], c.of(x, inside[i]), wants[i]);
+        }
+        outside(call, x, c, outside, LEAST, least - 2, least - 1, greatest + 1, greatest + 2, GREATEST);
+    }
+
+    /** A call of one of a sort, while there are none, one, and two of it. */
+    static void numbered(String call, DogNotary x, int sort, String[] texts, Call c, long[] wants, long outside) {
+        outside(call + ", none being there,", x, c, outside, LEAST, -2, -1, 0, 1, GREATEST);
+        tell(x, sort, texts[0]);
+        due(call + ", one being there, by 0", c.of(x, 0), wants[0]);
+        outside(call + ", one being there,", x, c, outside, LEAST, -2, -1, 1, 2, GREATEST);
+        tell(x, sort, texts[1]);
+        due(call + ", two being there, by 0", c.of(x, 0), wants[0]);
+        due(call + ", two being there, by 1", c.of(x, 1), wants[1]);
+        outside(call + ", two being there,", x, c, outside, LEAST, -2, -1, 2, 3, GREATEST);
+    }
+
+    /** Numbers about ranges (of each the first and the last): those in one have an answer, all others are outside. */
+    static void gaps(String call, DogNotary x, Call c, long outside, int... ranges) {
+        outside(call, x, c, outside, LEAST, LEAST + 10, GREATEST - 10, GREATEST);
+        for (int n = -30; n < 230; n++) {
+            boolean inside = false;
+            for (int i = 0; i < ranges.length; i += 2) {
+                inside |= n >= ranges[i] && n <= ranges[i + 1];
+            }
+            due(call + " by " + n + " has an answer", c.of(x, n) != outside, inside);
+        }
+    }
+
+    /** All that is told but for the tape, as the calls tell it. */
+    static String told(DogNotary x) {
+        StringBuilder s = new StringBuilder("fault ").append(x.fault(0)).append(" at ").append(x.fault(1));
+        for (int f = 0; f < x.count(FELL); f++) {
+            s.append("; fell");
+            for (int what = 0; what < 6; what++) {
+                s.append(' ').append(x.fell(f, what));
+            }
+            for (int b = 0; b < x.fell(f, 5); b++) {
+                s.append(' ').append(x.fell(f, 10 + b)).append(' ').append(x.fell(f, 20 + b));
+            }
+            for (int c = 0; c < x.fell(f, 0) * x.fell(f, 1); c++) {
+                s.append(x.fell(f, 100 + c) == 1 ? '#' : '.');
+            }
+        }
+        for (int d = 0; d < x.count(DRIVE); d++) {
+            s.append("; drive");
+            for (int k = 0; k < x.whistle(d, NONE, 0); k++) {
+                s.append(' ').append(x.whistle(d, k, 0)).append(' ').append(x.whistle(d, k, 1));
+            }
+        }
+        for (int b = 0; b < x.count(BOOK); b++) {
+            s.append("; book");
+            for (int what = 0; what < 60; what++) {
+                s.append(' ').append(x.book(b, what));
+            }
+        }
+        for (int g = 0; g < x.count(LOG); g++) {
+            s.append("; log");
+            for (int k = 0; k < x.fact(g, NONE, 0); k++) {
+                for (int what = 0; what < 4; what++) {
+                    s.append(' ').append(x.fact(g, k, what));
+                }
+            }
+        }
+        return s.toString();
+    }
+
+    static void due(String call, String got, String want) {
+        if (got.equals(want)) {
+            right++;
+        } else {
+            fail(call + " is '" + got + "', due is '" + want + "'");
+        }
+    }
 }
