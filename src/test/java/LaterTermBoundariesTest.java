@@ -82,6 +82,48 @@ public final class LaterTermBoundariesTest {
         due("neither", fellOf(ahead + "wall 0 0;wall 0 2;").driven(0, 0, 1), NONE);
     }
 
+    static void term3_driven_by_its_own_kind() {
+        due("a bolter behind an ewe", fellOf(lane(0, 9, "ewe 6 0;bolter 2 0;")).driven(0, 1, 0), 3);
+        due("an ewe behind a bolter", fellOf(lane(0, 9, "bolter 6 0;ewe 2 0;")).driven(0, 1, 0), 5);
+        due("a goose behind an ewe", fellOf(lane(0, 9, "ewe 6 0;goose 2 0;")).driven(0, 1, 0), NONE);
+    }
+
+    static void term3_driven_from_the_first_cell_and_the_last() {
+        // to the left, beside it, so that it goes right; then up, behind it
+        DogNotary first = fellOf("size 3 2;pen 2 0;dog 1 1 1;ewe 0 0;");
+        due("from the first", first.driven(0, 0, 0), 2);
+        due("left", first.driven(0, 0, 1), 3);
+        due("it can be anywhere", first.driven(0, 0, 2), 6);
+        // down, above it, so that it goes left; then down, behind it
+        DogNotary last = fellOf("size 8 8;pen 5 7;dog 7 5 1;wall 6 6;ewe 7 7;");
+        due("from the last", last.driven(0, 0, 0), 2);
+        due("down", last.driven(0, 0, 1), 2);
+        due("its cells", last.driven(0, 0, 2), 3);
+    }
+
+    static void term3_driven_a_long_way() {
+        // a winding way of seven right, two down, seven left, two down, seven right, two down, and left to the ewe
+        String rows = "wall 0 1;wall 1 1;wall 2 1;wall 3 1;wall 4 1;wall 5 1;wall 6 1;wall 1 3;wall 2 3;wall 3 3;wall 4 3;wall 5 3;"
+            + "wall 6 3;wall 7 3;wall 0 5;wall 1 5;wall 2 5;wall 3 5;wall 4 5;wall 5 5;wall 6 5;";
+        DogNotary x = fellOf("size 8 7;pen 0 6;dog 0 0 1;ewe 1 6;" + rows);
+        due("as far as that", x.driven(0, 0, 0), 32);
+        due("to the right", x.driven(0, 0, 1), 1);
+        due("its own cell and the pen", x.driven(0, 0, 2), 2);
+        due("if half are heard", x.heard(0, 0, 5, false), 64);
+    }
+
+    static void term3_driven_by_several_ways() {
+        // to the right: into the pen; down: up, and then it may go to the right, and down into the pen
+        DogNotary x = fellOf("size 3 3;pen 2 1;dog 0 0 1;ewe 1 1;");
+        due("the fewest", x.driven(0, 0, 0), 1);
+        due("to the right", x.driven(0, 0, 1), 1);
+        due("its cells: its own, the pen, two above", x.driven(0, 0, 2), 4);
+        // it goes up, right, down ahead of left, so never into the first column
+        DogNotary never = fellOf("size 3 3;pen 0 0;dog 2 2 1;ewe 1 1;");
+        due("never", never.driven(0, 0, 0), NONE);
+        due("two columns of three", never.driven(0, 0, 2), 6);
+    }
+
     static void term3_reach_counts_its_own_cell_and_the_pen() {
         due("it can't come anywhere", fellOf(lane(0, 9, "ewe 1 0;")).driven(0, 0, 2), 1);
         due("its own and the pen", fellOf(lane(4, 1, "ewe 6 0;")).driven(0, 0, 2), 2);
@@ -186,6 +228,29 @@ public final class LaterTermBoundariesTest {
         due("nothing is won by either", bookOf("dog 9 1;bargain 1 0;bargain 1 0;").notary(0, 1), 5);
     }
 
+    static void term3_notaries_a_better_eye_is_needed_elsewhere() {
+        DogNotary x = bookOf("dog 5 1;dog 9 1;bargain 5 5;bargain 9 7;");
+        due("both", x.notary(0, NONE), 12);
+        due("the lesser eye", x.notary(0, 0), 0);
+        due("the better eye", x.notary(0, 1), 1);
+        DogNotary y = bookOf("dog 9 1;dog 5 1;bargain 5 5;bargain 9 7;");
+        due("both again", y.notary(0, NONE), 12);
+        due("the better eye is kept for the second", y.notary(0, 0), 1);
+        due("the second", y.notary(0, 1), 0);
+    }
+
+    static void term3_one_book_says_nothing_of_another() {
+        DogNotary x = bookOf("dog 9 3;dog 9 3;dog 9 3;" + "bargain 1 9;".repeat(8) + "field 9;".repeat(10));
+        Boundaries.tell(x, Boundaries.BOOK, "dog 5 1;dog 9 1;bargain 5 5;bargain 9 7;field 3;field 4;");
+        due("the full one", x.notary(0, 7), 2);
+        due("the other one", x.notary(1, NONE), 12);
+        due("its row", x.notary(1, 1), 1);
+        due("the full one, parted", x.parted(0, 5, NONE), 18);
+        due("the other one, parted", x.parted(1, 5, NONE), 0);
+        due("in two", x.parted(1, 2, NONE), 3);
+        due("its cut", x.parted(1, 2, 0), 1);
+    }
+
     static void term3_notaries_none_and_as_many_as_may_be() {
         due("an empty book", bookOf("").notary(0, NONE), 0);
         due("no dogs", bookOf("bargain 1 9;").notary(0, NONE), 0);
@@ -271,6 +336,19 @@ public final class LaterTermBoundariesTest {
         due("once over the edge is done by none", logOf("went 7 0 6 0 0;").fits(0, 0), 0);
     }
 
+    static void term4_a_log_is_of_a_fell_8_by_8_without_walls_and_pen() {
+        DogNotary x = logOf("went 3 2 3 3 0;");
+        Boundaries.tell(x, Boundaries.LOG, "twice 3 4 3 5 0;");
+        Boundaries.tell(x, Boundaries.FELL, "size 5 5;pen 3 3;dog 0 0 1;ewe 1 1;ewe 3 2;wall 3 1;wall 4 2;");
+        for (int b = 0; b < 2; b++) {
+            due("a fell's beast " + b + " first", x.driven(0, b, 2) > 0 ? 1 : 0, 1);
+            due("then by one step: ewes, rams", x.fits(0, 0), 18);
+            due("by two steps: bolters", x.fits(1, 0), 9);
+            due("and where they would go", x.would(1, 27, 35, 0), 11);
+        }
+        due("the last cell is there; a bolter goes on to the left", logOf("went 7 6 7 5 2;").fits(0, 0), 18);
+    }
+
     static void term4_an_empty_log_and_a_full_one() {
         DogNotary all = logOf("");
         due("all fit", all.fits(0, 0), 36);
@@ -297,6 +375,10 @@ public final class LaterTermBoundariesTest {
         DogNotary none = logOf("went 7 0 6 0 0;");
         due("of nothing that fits, no kind", none.fits(0, 1), NONE);
         due("of nothing that fits, no eye", none.fits(0, 2), NONE);
+        DogNotary near = logOf("went 3 3 3 4 0;stayed 3 3 3 5;");
+        due("an ewe by an eye of 1, and rams", near.fits(0, 10), 0);
+        due("so no kind is sure", near.fits(0, 1), NONE);
+        due("nor an eye", near.fits(0, 2), NONE);
         due("kind 0 is an answer", logOf(nine + "went 3 3 3 4 0;").fits(0, 1), 0);
         due("eye 1 is an answer", logOf("twice 3 3 3 4 0;stayed 3 3 3 5;").fits(0, 2), 1);
     }
@@ -569,6 +651,12 @@ public final class LaterTermBoundariesTest {
         due("with room to go, away from him", fellOf(shut.replace("ewe 0 0", "ewe 1 0")).cornered(0), 0);
     }
 
+    static void term6_cornered_wherever_he_stood() {
+        due("he can stand in the first cell alone, and drives it", fellOf("size 3 2;pen 2 0;dog 0 0 1;ewe 1 0;wall 0 1;wall 1 1;wall 2 1;").cornered(0), 0);
+        due("in the last cell alone, and drives it", fellOf("size 2 3;pen 1 0;dog 1 2 1;ewe 1 1;wall 0 0;wall 0 1;wall 0 2;").cornered(0), 0);
+        due("he drives the last of two alone", fellOf("size 4 2;pen 3 0;dog 0 1 9;ewe 1 0;ewe 2 0;wall 0 0;wall 1 1;wall 2 1;").cornered(0), 1);
+    }
+
     // ---- term 6: lined, greedy ----
 
     static void term6_lined_by_steps() {
@@ -617,6 +705,19 @@ public final class LaterTermBoundariesTest {
             // then right is as good as left, and less, if he is not next to the pen
             due("the dog behind " + n, x.greedy(0, n, 2), n < 5 ? n : n % 2 == 1 ? 5 : 6);
         }
+    }
+
+    static void term6_greedy_by_the_fewest_steps_whatever_the_direction() {
+        // three lanes in which he could go away from the ewe by a lesser direction, or by a greater one
+        String down = "size 2 8;pen 0 7;dog 0 1 1;ewe 0 3;wall 1 0;wall 1 1;wall 1 2;wall 1 3;wall 1 4;wall 1 5;wall 1 6;wall 1 7;";
+        String left = "size 8 2;pen 0 0;dog 6 0 1;ewe 4 0;wall 0 1;wall 7 1;" + LANE_WALLS;
+        String up = "size 2 8;pen 0 0;dog 0 6 1;ewe 0 4;wall 1 0;wall 1 1;wall 1 2;wall 1 3;wall 1 4;wall 1 5;wall 1 6;wall 1 7;";
+        for (int n = 0; n <= 4; n++) {
+            due("down behind " + n, fellOf(down).greedy(0, n, 1), 4 - n);
+            due("left behind " + n, fellOf(left).greedy(0, n, 1), 4 - n);
+            due("up behind " + n, fellOf(up).greedy(0, n, 1), 4 - n);
+        }
+        due("penned", fellOf(left).greedy(0, 4, 0), 1);
     }
 
     static void term6_greedy_if_he_cant_go_no_more() {

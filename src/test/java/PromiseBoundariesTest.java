@@ -96,6 +96,16 @@ public final class PromiseBoundariesTest {
         due("the full one", full.count(FELL), 2);
     }
 
+    static void promise1_the_512th_call_answers() {
+        DogNotary x = new DogNotary();
+        for (int call = 1; call <= 510; call += 2) {
+            due("feed, call " + call, x.feed(0, 0, 0, 0, 0), 20);
+            due("end, call " + (call + 1), x.end(0), 0);
+        }
+        due("text, call 511", x.text(LOG, NONE), 0);
+        due("fits, call 512", x.fits(0, 0), 36);
+    }
+
     // ---- promise 2: feed ----
 
     static void promise2_up_to_600() {

@@ -354,6 +354,34 @@ public final class TermBoundariesTest {
         }
     }
 
+    static void term1_each_letter_of_a_word_counts() {
+        for (int sort = 0; sort < 4; sort++) {
+            for (String line : LINES[sort]) {
+                for (int i = 0; i < line.length() && isLetter(line.charAt(i)); i++) {
+                    char other = line.charAt(i) == 'q' ? 'z' : 'q';
+                    faultOf(sort, line.substring(0, i) + other + line.substring(i + 1), 1, 0);
+                }
+            }
+        }
+    }
+
+    static void term1_a_token_ends_where_the_tape_ends() {
+        String[] all = {"liex", "go 123", "go 12;", "lie;"};
+        int[] ends = {3, 5, 4, 3};
+        for (int i = 0; i < all.length; i++) {
+            DogNotary x = new DogNotary();
+            PromisesTest.feedAll(x, all[i]);
+            due("cut '" + all[i] + "'", x.end(ends[i]), ends[i]);
+            due("its text", x.text(DRIVE, NONE), NONE);
+            due("its fault", x.fault(0), 1);
+            due("its place: the end's", x.fault(1), ends[i]);
+        }
+        faultOf(DRIVE, " ".repeat(597) + "lie", 1, 600);
+        faultOf(DRIVE, " ".repeat(596) + "go 1", 1, 600);
+        faultOf(DRIVE, " ".repeat(600), 0, NONE);
+        faultOf(DRIVE, " ".repeat(596) + "lie;", 0, NONE);
+    }
+
     static void term1_a_sorts_lines_are_no_other_sorts() {
         for (int sort = 0; sort < 4; sort++) {
             for (int other = 0; other < 4; other++) {
