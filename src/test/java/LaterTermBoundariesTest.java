@@ -397,6 +397,14 @@ public final class LaterTermBoundariesTest {
         due("nothing fits", logOf("went 7 0 6 0 0;").ask(0, 5), NONE);
     }
 
+    static void term4_ask_counts_each_that_fits() {
+        // rams, and the others by an eye of 7 at most; two steps off the rams and three more stay, which are twelve:
+        // from above, twelve go to the last cell, six ewes and six bolters; from the right they go apart, so that is no better
+        DogNotary x = logOf("stayed 0 5 5 2;");
+        due("thirty fit", x.fits(0, 0), 30);
+        due("the least of those two steps off", x.ask(0, 62), 46);
+    }
+
     // ---- term 4: holding, fog ----
 
     /** He who has nothing to win by more holds out 0; so the rests are (0, y), y no less than a, and (x, 0), x no less than b or 9. */
