@@ -757,7 +757,12 @@ public final class LaterTermBoundariesTest {
         due("the least, though there are more", drive(fell, "go 1;".repeat(5) + "back;back;").caught(0, 0, 0), 5);
         due("by the fortieth", drive(fell, lies + "lie;" + "go 1;".repeat(5)).caught(0, 0, 0), 40);
         due("by forty not", drive(fell, lies + "lie;back;" + "go 1;".repeat(4)).caught(0, 0, 0), NONE);
+        due("by forty that can all be not", drive(fell, "back;".repeat(40)).caught(0, 0, 0), NONE);
+        due("by no whistles not", drive(fell, "").caught(0, 0, 0), NONE);
         due("by the first", drive(lane(4, 1, "ewe 6 0;"), "go 1;").caught(0, 0, 0), 1);
+        DogNotary x = drive(fell, "go 1;".repeat(5));
+        due("four in the place of five", Boundaries.tellInPlace(x, Boundaries.DRIVE, 0, "go 1;".repeat(4)), 0);
+        due("by those not", x.caught(0, 0, 0), NONE);
     }
 
     static void term6_caught_behind_end_not() {

@@ -312,6 +312,11 @@ public final class TermBoundariesTest {
         faultOf(BOOK, "field 0000000000007;", 1, 6);
         faultOf(BOOK, "field 4294967296;", 1, 6);
         faultOf(BOOK, "field 0 7;", 1, 8);
+        faultOf(BOOK, "field 0 007", 1, 8);
+        faultOf(BOOK, "field 0 007;", 1, 8);
+        faultOf(BOOK, "007", 1, 0);
+        faultOf(BOOK, "field 0;007", 1, 8);
+        faultOf(BOOK, "field 0;07", 1, 8);
         due("two digits", bookOf("field 07;").book(0, 50), 7);
         due("the second digit is the lower one", bookOf("field 70;").book(0, 50), 70);
     }
