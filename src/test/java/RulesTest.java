@@ -19,7 +19,7 @@ import java.util.regex.Pattern;
 public final class RulesTest {
     private static int wrong = 0;
 
-    private static final String FACE = """
+    static final String FACE = """
         public int feed(int a, int b, int c, int d, int e);
         public int end(int n);
         public int text(int sort, int at);
